@@ -15,6 +15,7 @@ public final class RefereeTests {
         promise25Tests();
         promise25Lent();
         promise25Order();
+        promise25Deep();
         promise27();
         Check.end();
     }
@@ -145,6 +146,11 @@ public final class RefereeTests {
         x.found(0, 0, 3);
         Check.due("served", 0, x.serve(0, 0));
         rulings("what was lent before does not count", 2, x, 0);
+        x.giveBack(0, 0, 0);
+        x.found(0, 1, 2);
+        lose(x, 0, 0, 1);
+        Check.due("served", 0, x.serve(0, 0));
+        rulings("nor does another kind that was lent before", 1, x, 0);
     }
 
     private static void lose(Meeplehouse house, int copy, int kind, int lost) {
@@ -174,6 +180,12 @@ public final class RefereeTests {
         rulings("an exception of an exception does not hold", 15, x, 0);
         x.pass(1);
         rulings("an exception of an exception of an exception", 20, x, 0);
+        Meeplehouse ahead = playing(6, 60);
+        ahead.addRule(0, NONE, PLAYERS, 6, 30);
+        ahead.addRule(0, NONE, PLAYERS, 5, 31);
+        ahead.addRule(0, 1, PLAYERS, 4, 32);
+        ahead.addRule(0, 0, SHARE, 3, 33);
+        rulings("the exception of the first, though it was added last", 33, ahead, 0);
         Meeplehouse two = playing(6, 60);
         two.addTitle(1, 12, 5, 0, 0, 0, 0);
         two.addRule(1, NONE, PLAYERS, 1, 5);
@@ -182,6 +194,20 @@ public final class RefereeTests {
         two.arrive(2, 60);
         two.serve(1, 1);
         rulings("each group by the book of what it plays", 5, two, 1);
+    }
+
+    private static void promise25Deep() {
+        Check.part("promises 25 and 26, as deep as a book can be");
+        Meeplehouse x = playing(6, 60);
+        for (int rule = 0; rule < 12; rule++) {
+            x.addRule(0, rule - 1, PLAYERS, 1, rule);
+        }
+        rulings("all tests hold", 11, x, 0);
+        Meeplehouse none = playing(6, 60);
+        for (int rule = 0; rule < 12; rule++) {
+            none.addRule(0, rule - 1, PLAYERS, rule == 0 ? 7 : 1, rule);
+        }
+        rulings("all tests hold but that of the chief rule", NONE, none, 0);
     }
 
     private static void promise27() {

@@ -18,6 +18,7 @@ public final class ShelfTests {
         promise19();
         promise19LatestFirst();
         promise19Keeps();
+        promise19FirstLends();
         promise20();
         promise21And22();
         promise23();
@@ -151,12 +152,12 @@ public final class ShelfTests {
     private static void promise17() {
         Check.part("promise 17");
         Meeplehouse x = withGroups(1);
-        int[] minutes = {45, 90, 45, 300, 5, 90};
+        int[] minutes = {45, 89, 45, 300, 5, 90};
         for (int title = 0; title < minutes.length; title++) {
             x.addTitle(1, 12, minutes[title], 0, 0, 0, 0);
             x.addCopy(title);
         }
-        int[] due = {3, 1, 5, 0, 2, 4};
+        int[] due = {3, 5, 1, 0, 2, 4};
         Check.due("offers", due.length, x.offers(0));
         for (int place = 0; place < due.length; place++) {
             Check.due("offerAt(0, " + place + ")", due[place], x.offerAt(0, place));
@@ -167,7 +168,7 @@ public final class ShelfTests {
         Check.index("offerAt(1, 0)", x, () -> x.offerAt(1, 0));
         Check.index("offerAt(-1, 0)", x, () -> x.offerAt(-1, 0));
         x.pass(400);
-        Check.due("left out: the one that takes too long", 1, x.offerAt(0, 0));
+        Check.due("left out: the one that takes too long", 5, x.offerAt(0, 0));
         Check.due("offers", 5, x.offers(0));
         x.serve(0, 5);
         Check.index("nothing is offered to one with a copy", x, () -> x.offerAt(0, 0));
@@ -323,6 +324,32 @@ public final class ShelfTests {
         Check.due("a loan for each kind of the one lender", 3, x.giveBack(0, 3, 4));
         piecesAre(x, 0, 3, 4, 3, 0);
         piecesAre(x, 1, 4, 3, 4, 3);
+    }
+
+    private static void promise19FirstLends() {
+        Check.part("promise 19, the first copy lends");
+        Meeplehouse x = withGroups(1);
+        x.addTitle(1, 12, 5, 4, 0, 0, 0);
+        for (int copy = 0; copy < 3; copy++) {
+            x.addCopy(0);
+        }
+        lose(x, 0, 0, 0, 2);
+        lose(x, 0, 0, 1, 3);
+        lose(x, 0, 0, 2, 2);
+        Check.due("lenders(0), 1 of the copy 1 and 1 of the copy 2", 2, x.lenders(0));
+        Check.due("lenders(1), 2 of the copy 0 and 1 of the copy 2", 2, x.lenders(1));
+        Check.due("lenders(2), 2 of the copy 0", 1, x.lenders(2));
+        x.addRule(0, Meeplehouse.NONE, Meeplehouse.LENT, 2, 8);
+        Check.due("fewest lenders, though not the lowest number", 2, x.serve(0, 0));
+        Check.due("the first lends", Meeplehouse.LENDING, x.stateOf(0));
+        Check.due("the second does not", Meeplehouse.SHELF, x.stateOf(1));
+        Check.due("ruling", 8, x.ruling(0));
+        piecesAre(x, 0, 0, 0, 0, 0);
+        piecesAre(x, 2, 4, 0, 0, 0);
+        Check.due("closed", 1, x.giveBack(0, 0, 1));
+        piecesAre(x, 0, 2, 0, 0, 0);
+        piecesAre(x, 2, 1, 0, 0, 0);
+        Check.due("the first is back", Meeplehouse.SHELF, x.stateOf(0));
     }
 
     private static void promise20() {
