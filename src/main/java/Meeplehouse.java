@@ -505,7 +505,7 @@ public final class Meeplehouse {
         }
 
         int lack(int copy, int kind) {
-            return full.at(titleOf.at(copy) * KINDS + kind) - count(copy, kind);
+            return full.at(titleOf.at(copy) * KINDS + kind) - has.at(copy * KINDS + kind);
         }
 
         void change(int copy, int kind, int more) {
@@ -557,9 +557,10 @@ public final class Meeplehouse {
             for (int kind = 0; kind < KINDS; kind++) {
                 int lacking = lack(copy, kind);
                 for (int other = 0; other < copies && lacking > 0; other++) {
-                    int gift = Math.min(lacking, giftFrom(other, copy, kind));
-                    givers |= gift > 0 ? 1 << other : 0;
-                    lacking -= gift;
+                    if (mayLend(other, copy) && count(other, kind) > 0) {
+                        givers |= 1 << other;
+                        lacking -= Math.min(lacking, count(other, kind));
+                    }
                 }
                 if (lacking > 0) {
                     return NONE;
@@ -568,23 +569,20 @@ public final class Meeplehouse {
             return Integer.bitCount(givers);
         }
 
-        private int giftFrom(int other, int copy, int kind) {
-            return mayLend(other, copy) ? count(other, kind) : 0;
-        }
-
         private boolean mayLend(int other, int copy) {
-            // One that lends a kind to this copy already counts as on the shelf for its further kinds.
+            // One that already lends a kind to this copy was on the shelf and may lend more kinds.
             return other != copy
                 && titleOf.at(other) == titleOf.at(copy)
-                && (place(other) == SHELF || borrower.at(other) == copy);
+                && holder.at(other) == NONE
+                && (borrower.at(other) == NONE || borrower.at(other) == copy);
         }
 
         void handOut(int copy, int group) {
             for (int kind = 0; kind < KINDS; kind++) {
                 for (int other = 0; other < copies; other++) {
-                    int gift = Math.min(lack(copy, kind), giftFrom(other, copy, kind));
-                    if (gift > 0) {
-                        lend(other, copy, kind, gift);
+                    int many = Math.min(lack(copy, kind), count(other, kind));
+                    if (mayLend(other, copy) && many > 0) {
+                        lend(other, copy, kind, many);
                     }
                 }
             }
