@@ -1,7 +1,11 @@
 /** Compares answers with those that are due and counts the wrong ones. */
 final class Check {
-    interface Call {
-        int run();
+    interface Numbered {
+        int on(House house, int number);
+    }
+
+    interface Body {
+        void run();
     }
 
     private static int wrong = 0;
@@ -13,6 +17,16 @@ final class Check {
 
     static void part(String name) {
         part = name;
+    }
+
+    /** Runs a part of a test; a call in it that throws though an answer is due is a wrong one. */
+    static void part(String name, Body body) {
+        part = name;
+        try {
+            body.run();
+        } catch (RuntimeException e) {
+            fail("an answer was due, but a call threw " + e);
+        }
     }
 
     static void due(String what, long want, long got) {
@@ -29,29 +43,47 @@ final class Check {
         }
     }
 
-    /** The call must throw just this class, and nothing that the face shows may change. */
-    static void refused(String what, Class<? extends RuntimeException> want, Meeplehouse house, Call call) {
-        String before = Snapshot.of(house);
-        String got = "nothing";
-        try {
-            call.run();
-        } catch (RuntimeException e) {
-            got = e.getClass().getName();
-        }
-        same(what + " throws", want.getName(), got);
-        same(what + " changes nothing", before, Snapshot.of(house));
+    /** The call must throw just this class; and new houses must answer the same with it and without it. */
+    static void refused(String what, Class<? extends RuntimeException> want, House house, House.Call call) {
+        same(what + " throws", want.getName(), thrownBy(call, house));
+        String text = what + " changes nothing, ";
+        same(text + "shown", Snapshot.shown(house.againWithoutRefused()), Snapshot.shown(house.again()));
+        same(text + "emptied", Snapshot.emptied(house.againWithoutRefused()), Snapshot.emptied(house.again()));
+        same(text + "filled", Snapshot.filled(house.againWithoutRefused()), Snapshot.filled(house.again()));
     }
 
-    static void index(String what, Meeplehouse house, Call call) {
+    private static String thrownBy(House.Call call, House house) {
+        try {
+            return "nothing, but answers " + call.on(house);
+        } catch (RuntimeException e) {
+            return e.getClass().getName();
+        }
+    }
+
+    static void index(String what, House house, House.Call call) {
         refused(what, IndexOutOfBoundsException.class, house, call);
     }
 
-    static void argument(String what, Meeplehouse house, Call call) {
+    static void argument(String what, House house, House.Call call) {
         refused(what, IllegalArgumentException.class, house, call);
     }
 
-    static void state(String what, Meeplehouse house, Call call) {
+    static void state(String what, House house, House.Call call) {
         refused(what, IllegalStateException.class, house, call);
+    }
+
+    /** No number beside those from 0 under the count is one. */
+    static void noSuch(String what, int count, House house, Numbered call) {
+        for (int number : new int[] {-1, count, Integer.MAX_VALUE, Integer.MIN_VALUE}) {
+            index(what + " " + number, house, h -> call.on(h, number));
+        }
+    }
+
+    /** The next below and the next above the range, and the ends of int. */
+    static void outOfRange(String what, int from, int to, House house, Numbered call) {
+        for (int number : new int[] {from - 1, to + 1, Integer.MAX_VALUE, Integer.MIN_VALUE}) {
+            argument(what + " " + number, house, h -> call.on(h, number));
+        }
     }
 
     static void fail(String text) {

@@ -50,6 +50,10 @@ final class Model {
     private final List<Title> titles = new ArrayList<>();
     private final List<Copy> copies = new ArrayList<>();
 
+    int now() {
+        return now;
+    }
+
     int pass(int minutes) {
         argument(minutes >= 1 && minutes <= 500);
         state(now + minutes <= 20000);

@@ -1,10 +1,14 @@
-/** Long runs of calls, most of them right and some of them wrong, answered by the program and by the model. */
+/** Runs of 512 calls, most of them right and some of them wrong, answered by the program and by the model. */
 public final class ModelTests {
-    private static final int RUNS = 2000;
-    private static final int CALLS = 512;
+    private static final int RUNS = 6000;
+    private static final int BUILDING = 90;
     private static final int[] EDGES = {-1, -2, 10, 13, 16, 30, 301, 601, Integer.MAX_VALUE, Integer.MIN_VALUE};
 
-    private final Meeplehouse house = new Meeplehouse();
+    private interface Modelled {
+        int run();
+    }
+
+    private final House house = new House();
     private final Model model = new Model();
     private final boolean crowded;
     private long seed;
@@ -22,7 +26,7 @@ public final class ModelTests {
         for (int run = 0; run < RUNS; run++) {
             Check.part("run " + run);
             ModelTests test = new ModelTests(run);
-            for (int call = 0; call < CALLS; call++) {
+            while (test.house.calls() < House.MOST_CALLS) {
                 test.step();
             }
         }
@@ -46,28 +50,30 @@ public final class ModelTests {
         return to < from ? from : from + below(to - from + 1);
     }
 
+    /** The first calls fill the house, so that the others find something there. */
     private void step() {
         int kind = below(100);
-        if (kind < 8) {
-            passOrAdd();
-        } else if (kind < 16) {
+        boolean building = house.calls() < BUILDING;
+        if (kind < (building ? 20 : 5)) {
+            passOrAddTable();
+        } else if (kind < (building ? 60 : 10)) {
             addToShelf();
-        } else if (kind < 40) {
+        } else if (kind < (building ? 75 : 20)) {
             comeAndGo();
-        } else if (kind < 75) {
+        } else if (kind < 60) {
             play();
         } else {
             ask();
         }
     }
 
-    private void passOrAdd() {
+    private void passOrAddTable() {
         if (below(3) > 0) {
             int minutes = pick(1, below(8) == 0 ? 500 : 40);
-            compare("pass " + minutes, () -> house.pass(minutes), () -> model.pass(minutes));
+            compare("pass " + minutes, h -> h.pass(minutes), () -> model.pass(minutes));
         } else {
             int seats = pick(2, 6);
-            compare("addTable " + seats, () -> house.addTable(seats), () -> model.addTable(seats));
+            compare("addTable " + seats, h -> h.addTable(seats), () -> model.addTable(seats));
         }
     }
 
@@ -76,17 +82,22 @@ public final class ModelTests {
         if (kind == 0) {
             addTitle();
         } else if (kind == 1) {
-            int title = pick(0, (crowded ? Math.min(titles, 2) : titles) - 1);
-            copies += compare("addCopy " + title, () -> house.addCopy(title), () -> model.addCopy(title));
+            int title = anyTitle();
+            copies += compare("addCopy " + title, h -> h.addCopy(title), () -> model.addCopy(title));
         } else {
             addRule();
         }
     }
 
+    /** In a crowded house few titles share the copies, so that more is lent. */
+    private int anyTitle() {
+        return pick(0, (crowded ? Math.min(titles, 2) : titles) - 1);
+    }
+
     private void addTitle() {
         int[] a = {pick(1, 4), pick(4, 12), pick(5, crowded ? 60 : 300), pick(0, 9), pick(0, 9), pick(0, 4), pick(0, 1)};
         titles += compare("addTitle " + java.util.Arrays.toString(a),
-            () -> house.addTitle(a[0], a[1], a[2], a[3], a[4], a[5], a[6]),
+            h -> h.addTitle(a[0], a[1], a[2], a[3], a[4], a[5], a[6]),
             () -> model.addTitle(a[0], a[1], a[2], a[3], a[4], a[5], a[6]));
     }
 
@@ -97,27 +108,19 @@ public final class ModelTests {
         int value = pick(1, test == 1 ? 300 : 6);
         int ruling = pick(0, 99);
         rules += compare("addRule " + title + " " + parent + " " + test + " " + value + " " + ruling,
-            () -> house.addRule(title, parent, test, value, ruling),
+            h -> h.addRule(title, parent, test, value, ruling),
             () -> model.addRule(title, parent, test, value, ruling));
     }
 
     private void comeAndGo() {
         int group = pick(0, groups - 1);
-        if (below(12) == 0) {
+        if (below(2) == 0) {
             int players = pick(1, 12);
             int minutes = pick(10, 600);
             groups += compare("arrive " + players + " " + minutes,
-                () -> house.arrive(players, minutes), () -> model.arrive(players, minutes));
-        } else if (below(12) == 0) {
-            compare("leave " + group, () -> house.leave(group), () -> model.leave(group));
+                h -> h.arrive(players, minutes), () -> model.arrive(players, minutes));
         } else {
-            int players = pick(1, 12);
-            compare("tableOf " + group, () -> house.tableOf(group), () -> model.tableOf(group));
-            compare("tablesOf " + group, () -> house.tablesOf(group), () -> model.tablesOf(group));
-            compare("left " + group, () -> house.left(group), () -> model.left(group));
-            compare("waiting", house::waiting, model::waiting);
-            compare("waste " + players, () -> house.waste(players), () -> model.waste(players));
-            compare("wasteByAll " + players, () -> house.wasteByAll(players), () -> model.waste(players));
+            compare("leave " + group, h -> h.leave(group), () -> model.leave(group));
         }
     }
 
@@ -126,41 +129,100 @@ public final class ModelTests {
         int kind = pick(0, 3);
         int chance = below(7);
         if (chance < 3) {
-            int title = pick(0, (crowded ? Math.min(titles, 2) : titles) - 1);
-            compare("serve " + group + " " + title, () -> house.serve(group, title), () -> model.serve(group, title));
+            int title = anyTitle();
+            compare("serve " + group + " " + title, h -> h.serve(group, title), () -> model.serve(group, title));
         } else if (chance < 6) {
             int lost = pick(0, below(4) == 0 ? 9 : 2);
             compare("giveBack " + group + " " + kind + " " + lost,
-                () -> house.giveBack(group, kind, lost), () -> model.giveBack(group, kind, lost));
+                h -> h.giveBack(group, kind, lost), () -> model.giveBack(group, kind, lost));
         } else {
             int copy = pick(0, copies - 1);
             int many = pick(1, below(4) == 0 ? 9 : 2);
             compare("found " + copy + " " + kind + " " + many,
-                () -> house.found(copy, kind, many), () -> model.found(copy, kind, many));
+                h -> h.found(copy, kind, many), () -> model.found(copy, kind, many));
         }
     }
 
     private void ask() {
-        int group = pick(0, groups - 1);
-        int copy = pick(0, copies - 1);
-        int title = pick(0, titles - 1);
-        int kind = pick(0, 3);
-        int place = pick(0, 3);
-        compare("offers " + group, () -> house.offers(group), () -> model.offers(group));
-        compare("offerAt " + group + " " + place, () -> house.offerAt(group, place), () -> model.offerAt(group, place));
-        compare("pieces " + copy + " " + kind, () -> house.pieces(copy, kind), () -> model.pieces(copy, kind));
-        compare("stateOf " + copy, () -> house.stateOf(copy), () -> model.stateOf(copy));
-        compare("lenders " + copy, () -> house.lenders(copy), () -> model.lenders(copy));
-        compare("copyOf " + group, () -> house.copyOf(group), () -> model.copyOf(group));
-        compare("ruling " + group, () -> house.ruling(group), () -> model.ruling(group));
-        compare("rulingFromBelow " + group, () -> house.rulingFromBelow(group), () -> model.ruling(group));
-        compare("depth " + title, () -> house.depth(title), () -> model.depth(title));
+        int kind = below(3);
+        if (kind == 0) {
+            askOfGroup(pick(0, groups - 1));
+        } else if (kind == 1) {
+            askOfCopy(pick(0, copies - 1));
+        } else {
+            askOfHouse();
+        }
     }
 
-    /** Tells 1 if the call answered, 0 if it threw. */
-    private static int compare(String what, Check.Call program, Check.Call model) {
-        String due = Snapshot.answer(model);
-        Check.same(what, due, Snapshot.answer(program));
-        return due.startsWith("I") ? 0 : 1;
+    private void askOfGroup(int group) {
+        int place = pick(0, 3);
+        switch (below(6)) {
+            case 0:
+                compare("tableOf " + group, h -> h.tableOf(group), () -> model.tableOf(group));
+                compare("tablesOf " + group, h -> h.tablesOf(group), () -> model.tablesOf(group));
+                break;
+            case 1:
+                compare("left " + group, h -> h.left(group), () -> model.left(group));
+                break;
+            case 2:
+                compare("offers " + group, h -> h.offers(group), () -> model.offers(group));
+                break;
+            case 3:
+                compare("offerAt " + group + " " + place,
+                    h -> h.offerAt(group, place), () -> model.offerAt(group, place));
+                break;
+            case 4:
+                compare("copyOf " + group, h -> h.copyOf(group), () -> model.copyOf(group));
+                break;
+            default:
+                compare("ruling " + group, h -> h.ruling(group), () -> model.ruling(group));
+                compare("rulingFromBelow " + group, h -> h.rulingFromBelow(group), () -> model.ruling(group));
+                break;
+        }
+    }
+
+    private void askOfCopy(int copy) {
+        int kind = pick(0, 3);
+        switch (below(3)) {
+            case 0:
+                compare("pieces " + copy + " " + kind, h -> h.pieces(copy, kind), () -> model.pieces(copy, kind));
+                break;
+            case 1:
+                compare("stateOf " + copy, h -> h.stateOf(copy), () -> model.stateOf(copy));
+                break;
+            default:
+                compare("lenders " + copy, h -> h.lenders(copy), () -> model.lenders(copy));
+                break;
+        }
+    }
+
+    private void askOfHouse() {
+        int players = pick(1, 12);
+        int title = pick(0, titles - 1);
+        switch (below(4)) {
+            case 0:
+                compare("waiting", House::waiting, model::waiting);
+                break;
+            case 1:
+                compare("now", House::now, model::now);
+                break;
+            case 2:
+                compare("depth " + title, h -> h.depth(title), () -> model.depth(title));
+                break;
+            default:
+                compare("waste " + players, h -> h.waste(players), () -> model.waste(players));
+                compare("wasteByAll " + players, h -> h.wasteByAll(players), () -> model.waste(players));
+                break;
+        }
+    }
+
+    /** Tells 1 if the call answered, 0 if it threw or if the house has had all its calls. */
+    private int compare(String what, House.Call program, Modelled due) {
+        if (house.calls() >= House.MOST_CALLS) {
+            return 0;
+        }
+        String answer = Snapshot.answer(h -> due.run(), house);
+        Check.same(what, answer, Snapshot.answer(program, house));
+        return answer.startsWith("I") ? 0 : 1;
     }
 }
