@@ -2,17 +2,17 @@ import java.io.IOException;
 import java.nio.file.Files;
 import java.nio.file.Path;
 
-/** Each sentence of the document that names a boundary has tests of its own; its path is the argument. */
+/** Each sentence of the document that names a boundary has tests of its own; the project's root is the argument. */
 public final class EdgeTests {
     private EdgeTests() {
     }
 
     public static void main(String[] args) throws IOException {
         if (args.length != 1) {
-            System.out.println("the path of the document is needed");
+            System.out.println("the root of the project is needed");
             System.exit(1);
         }
-        Path document = Path.of(args[0]);
+        Path document = Path.of(args[0], "..", "shared", "DOC.md");
         boolean compared = Files.isReadable(document);
         if (compared) {
             Sentences.read(document);
